@@ -82,14 +82,14 @@ public final class OrderPatterns {
         if (!one.load(order) || !search.aim(pattern)) {
             return NO_SUCH;
         }
-        return search.first(one, 0, 0) >= 0 ? 1 : 0;
+        return search.first(one) >= 0 ? 1 : 0;
     }
 
     public int where(int order, int pattern) {
         if (!one.load(order) || !search.aim(pattern)) {
             return NO_SUCH;
         }
-        int places = search.first(one, 0, 0);
+        int places = search.first(one);
         return places >= 0 ? places : NONE;
     }
 
@@ -97,7 +97,7 @@ public final class OrderPatterns {
         if (!one.load(order) || !search.aim(pattern)) {
             return NO_SUCH;
         }
-        return search.ways(one, 0, 0);
+        return search.ways(one);
     }
 
     public int turned(int order, int turn) {
@@ -465,7 +465,7 @@ public final class OrderPatterns {
         for (int r = 0; r < at(FACTORIAL, n); r++) {
             if (table.has(n, r)) {
                 walker.loadIndex(n, r);
-                found += search.ways(walker, 0, 0);
+                found += search.ways(walker);
             }
         }
         return found;
@@ -477,7 +477,7 @@ public final class OrderPatterns {
             return NO_SUCH;
         }
         walker.loadIndex(n, best);
-        return search.ways(walker, 0, 0);
+        return search.ways(walker);
     }
 
     public int packed(int pattern, int n) {
@@ -530,7 +530,7 @@ public final class OrderPatterns {
         if (family == null) {
             return NOTHING_HELD;
         }
-        shelves[d] = what == KEEP_CLASS ? family.asItIs() : countsOf(place);
+        shelves[d] = what == KEEP_CLASS ? family.asItIs() : countsIn(filled(place, COMPARED));
         return 0;
     }
 
@@ -549,20 +549,20 @@ public final class OrderPatterns {
         if (!isShelf(d)) {
             throw new IllegalArgumentException("no such shelf");
         }
-        if (!(shelves[d] instanceof Row held) || i < 0 || i >= held.size()) {
+        if (!(heldOn(d) instanceof Row row) || i < 0 || i >= row.size()) {
             throw new IllegalStateException("no such element");
         }
-        return held.value(i);
+        return row.value(i);
     }
 
     public int copy(int d, int i, int e, int j, int n) {
         if (!isShelf(d) || !isShelf(e)) {
             return NO_SUCH;
         }
-        if (shelves[d] == null || shelves[e] == null) {
+        if (heldOn(d) == null || heldOn(e) == null) {
             return NOTHING_HELD;
         }
-        if (!(shelves[d] instanceof Row source) || !(shelves[e] instanceof Row target)) {
+        if (!(heldOn(d) instanceof Row source) || !(heldOn(e) instanceof Row target)) {
             return OTHER_KIND;
         }
         if (source.what() != target.what()) {
@@ -579,21 +579,22 @@ public final class OrderPatterns {
         if (!isShelf(d)) {
             return NO_SUCH;
         }
-        if (shelves[d] == null) {
+        Held held = heldOn(d);
+        if (held == null) {
             return NOTHING_HELD;
         }
-        if (!(shelves[d] instanceof Row held) || held.what() != BYTES) {
+        if (!(held instanceof Row row) || row.what() != BYTES) {
             return OTHER_KIND;
         }
-        if (held.size() > LONGEST) {
+        if (row.size() > LONGEST) {
             return NO_PLACE;
         }
         one.empty();
-        for (int i = 0; i < held.size(); i++) {
-            if (one.contains(held.value(i))) {
+        for (int i = 0; i < row.size(); i++) {
+            if (one.contains(row.value(i))) {
                 return NONE;
             }
-            one.append(held.value(i));
+            one.append(row.value(i));
         }
         return one.standing(0, one.size());
     }
@@ -602,20 +603,22 @@ public final class OrderPatterns {
         if (!isShelf(d)) {
             return NO_SUCH;
         }
-        if (shelves[d] == null) {
+        Held held = heldOn(d);
+        if (held == null) {
             return NOTHING_HELD;
         }
-        return shelves[d] instanceof Family family ? family.heft() : OTHER_KIND;
+        return held instanceof Family family ? family.heft() : OTHER_KIND;
     }
 
     public int toss(int d) {
         if (!isShelf(d)) {
             return NO_SUCH;
         }
-        if (shelves[d] == null) {
+        Held held = heldOn(d);
+        if (held == null) {
             return NOTHING_HELD;
         }
-        if (!(shelves[d] instanceof Family family)) {
+        if (!(held instanceof Family family)) {
             return OTHER_KIND;
         }
         try {
@@ -798,7 +801,7 @@ public final class OrderPatterns {
         int greatest = 0;
         for (int r = 0; r < at(FACTORIAL, n); r++) {
             walker.loadIndex(n, r);
-            int found = search.ways(walker, 0, 0);
+            int found = search.ways(walker);
             if (found > greatest) {
                 greatest = found;
                 best = r;
@@ -931,6 +934,10 @@ public final class OrderPatterns {
 
     // ---- helpers of shelves
 
+    private Held heldOn(int d) {
+        return isShelf(d) ? shelves[d] : null;
+    }
+
     private int keepOrder(int d, int order) {
         if (!isShelf(d) || !one.load(order)) {
             return NO_SUCH;
@@ -943,9 +950,8 @@ public final class OrderPatterns {
         return 0;
     }
 
-    private Row countsOf(int place) {
+    private static Row countsIn(Table table) {
         Row made = new Row(INTS, COMPARED + 1);
-        Table table = filled(place, COMPARED);
         for (int n = 0; table != null && n <= COMPARED; n++) {
             made.change(n, table.many(n));
         }
@@ -965,7 +971,7 @@ public final class OrderPatterns {
         }
 
         int num(int i) {
-            return at(numbers, i);
+            return i >= 0 && i < LONGEST ? numbers[i] : 0;
         }
 
         void change(int i, int v) {
@@ -1181,7 +1187,7 @@ public final class OrderPatterns {
         }
 
         boolean finds(int order) {
-            return whole.load(order) && first(whole, 0, 0) >= 0;
+            return whole.load(order) && firstFrom(whole, 0, 0) >= 0;
         }
 
         private boolean fits(int t, int number) {
@@ -1190,8 +1196,12 @@ public final class OrderPatterns {
             return (low < 0 || at(taken, low) < number) && (high < 0 || at(taken, high) > number);
         }
 
+        int ways(Line order) {
+            return waysFrom(order, 0, 0);
+        }
+
         /** In how many ways the PATTERN's numbers from t on stand at places from one on. */
-        int ways(Line order, int t, int from) {
+        private int waysFrom(Line order, int t, int from) {
             if (t >= pattern.size()) {
                 return 1;
             }
@@ -1199,21 +1209,25 @@ public final class OrderPatterns {
             for (int p = from; p <= order.size() - pattern.size() + t; p++) {
                 if (fits(t, order.num(p))) {
                     set(taken, t, order.num(p));
-                    found += ways(order, t + 1, p + 1);
+                    found += waysFrom(order, t + 1, p + 1);
                 }
             }
             return found;
         }
 
-        /** The first such places, as bits; -1: none. */
-        int first(Line order, int t, int from) {
+        /** The first places at which an ORDER HOLDS it, as bits; -1: none. */
+        int first(Line order) {
+            return firstFrom(order, 0, 0);
+        }
+
+        private int firstFrom(Line order, int t, int from) {
             if (t >= pattern.size()) {
                 return 0;
             }
             for (int p = from; p <= order.size() - pattern.size() + t; p++) {
                 if (fits(t, order.num(p))) {
                     set(taken, t, order.num(p));
-                    int rest = first(order, t + 1, p + 1);
+                    int rest = firstFrom(order, t + 1, p + 1);
                     if (rest >= 0) {
                         return rest | 1 << p;
                     }
@@ -1445,7 +1459,7 @@ public final class OrderPatterns {
 
         boolean names(int pattern) {
             for (int i = 0; i < many; i++) {
-                if (pattern(i) == pattern) {
+                if (at(patterns, i) == pattern) {
                     return true;
                 }
             }
@@ -1466,7 +1480,7 @@ public final class OrderPatterns {
 
         boolean has(Line order) {
             for (int i = 0; i < many; i++) {
-                if (search.aim(pattern(i)) && search.first(order, 0, 0) >= 0) {
+                if (search.aim(pattern(i)) && search.first(order) >= 0) {
                     return false;
                 }
             }
