@@ -772,9 +772,9 @@ public final class OrderPatterns {
 
     private int simpleOnesOf(int n) {
         int found = 0;
-        for (int r = 0; n > 1 && r < at(FACTORIAL, n); r++) {
+        for (int r = 0; r < at(FACTORIAL, n); r++) {
             walker.loadIndex(n, r);
-            if (walker.spansInside() == 0) {
+            if (walker.isSimple()) {
                 found++;
             }
         }
@@ -1126,32 +1126,39 @@ public final class OrderPatterns {
         int spansInside() {
             int found = 0;
             for (int start = 0; start < size; start++) {
-                int low = num(start);
-                int high = low;
-                for (int i = start + 1; i < size; i++) {
-                    low = Math.min(low, num(i));
-                    high = Math.max(high, num(i));
-                    if (high - low == i - start && i - start + 1 < size) {
-                        found++;
-                    }
-                }
+                found += Integer.bitCount(endsOfSpans(start));
             }
             return found;
         }
 
+        boolean isSimple() {
+            for (int start = 0; start < size; start++) {
+                if (endsOfSpans(start) != 0) {
+                    return false;
+                }
+            }
+            return size >= 2;
+        }
+
         /** Where the longest SPAN from a place on ends; one behind the place if there is none. */
         int endOfLongestSpan(int start) {
-            int end = start + 1;
+            int ends = endsOfSpans(start);
+            return ends == 0 ? start + 1 : 31 - Integer.numberOfLeadingZeros(ends);
+        }
+
+        /** The places behind the SPANS that begin at a place, as bits. */
+        private int endsOfSpans(int start) {
+            int ends = 0;
             int low = num(start);
             int high = low;
             for (int i = start + 1; i < size; i++) {
                 low = Math.min(low, num(i));
                 high = Math.max(high, num(i));
                 if (high - low == i - start && i - start + 1 < size) {
-                    end = i + 1;
+                    ends |= 1 << i + 1;
                 }
             }
-            return end;
+            return ends;
         }
     }
 
