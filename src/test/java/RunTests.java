@@ -86,7 +86,7 @@ final class RunTests {
                         x.look(a, what), model.look(a, what));
             }
             case 6: {
-                int order = order(8);
+                int order = order(9);
                 return due(seed, number, "in " + a + " " + order,
                         x.in(a, order), model.in(a, order));
             }
