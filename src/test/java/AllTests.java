@@ -7,7 +7,14 @@ public final class AllTests {
         Checks checks = new Checks();
         new PromiseTests(checks).run();
         new DefinitionTests(checks).run();
+        new TermBoundaryTests(checks).run();
+        new OrderBoundaryTests(checks).run();
+        new ClassBoundaryTests(checks).run();
+        new NumberBoundaryTests(checks).run();
+        new ShelfBoundaryTests(checks).run();
+        new RefusalTests(checks).run();
         new RunTests(checks).run();
+        new EdgeTests(checks).run();
         new RoomTests(checks).run();
         new LanguageTests(checks).run();
         System.out.println("checks: " + checks.passed() + " passed, " + checks.failed() + " failed");
