@@ -53,6 +53,7 @@ public final class OrderPatterns {
     private final Line two = new Line();
     private final Line three = new Line();
     private final Line walker = new Line();
+    private final Line behind = new Line();
     private final Search search = new Search();
     private final Shape rising = new Shape();
     private final int[] partEnds = new int[LONGEST];
@@ -876,35 +877,38 @@ public final class OrderPatterns {
             return null;
         }
         for (int level = table.levels(); level <= Math.min(n, COUNTED); level++) {
-            for (int r = 0; r < at(FACTORIAL, level); r++) {
-                if (belongs(family, table, level, r)) {
-                    table.mark(level, r);
-                }
-            }
+            fill(family, table, level);
             table.closeLevel();
         }
         return table;
     }
 
-    /** Whether a CLASS has ORDER r of n, when its Table is right for those of n - 1. */
-    private boolean belongs(Family family, Table table, int n, int r) {
+    /** Marks the ORDERS of n that a CLASS has, when its Table is right for those of n - 1. */
+    private void fill(Family family, Table table, int n) {
         if (n == 0) {
-            return true;
+            table.mark(0, 0);
+            return;
         }
-        // A CLASS has all that an ORDER of it HOLDS; this is what is left behind the first number.
-        if (!table.has(n - 1, remainder(r, at(FACTORIAL, n - 1)))) {
-            return false;
+        int looks = family.looks(n);
+        int rests = at(FACTORIAL, n - 1);
+        for (int rest = 0; rest < rests; rest++) {
+            // A CLASS has all that an ORDER of it HOLDS, so what is left behind the first number.
+            if (!table.has(n - 1, rest)) {
+                continue;
+            }
+            behind.loadIndex(n - 1, rest);
+            for (int first = 1; first <= n; first++) {
+                walker.loadBehind(first, behind);
+                if (hasAllLeft(table, 1, looks) && !family.bars(walker)) {
+                    table.mark(n, (first - 1) * rests + rest);
+                }
+            }
         }
-        walker.loadIndex(n, r);
-        return hasAllLeft(table, family.looks(n)) && !family.bars(walker);
     }
 
-    /** Whether each ORDER that is left when walker loses one of its first places is in a Table. */
-    private boolean hasAllLeft(Table table, int places) {
-        if (places > 0) {
-            walker.countLater();
-        }
-        for (int i = 0; i < places; i++) {
+    /** Whether each ORDER that is left when walker loses a place, of some, is in a Table. */
+    private boolean hasAllLeft(Table table, int from, int end) {
+        for (int i = from; i < end; i++) {
             if (!table.has(walker.size() - 1, walker.indexWithout(i))) {
                 return false;
             }
@@ -917,7 +921,7 @@ public final class OrderPatterns {
             return false;
         }
         walker.loadIndex(n, r);
-        return hasAllLeft(table, n);
+        return hasAllLeft(table, 0, n);
     }
 
     private boolean turnsInto(Free free, int turn, Free other) {
@@ -963,6 +967,7 @@ public final class OrderPatterns {
     /** An ORDER, or other numbers no two of which are alike, laid out one by one. */
     private static final class Line {
         private final int[] numbers = new int[LONGEST];
+        /** For each place: how many lower numbers are behind it. They make an ORDER's index. */
         private final int[] later = new int[LONGEST];
         private int size;
 
@@ -1035,6 +1040,18 @@ public final class OrderPatterns {
             }
         }
 
+        /** Lays out a number, and behind it another Line's ORDER that came by an index. */
+        void loadBehind(int first, Line other) {
+            open(other.size + 1);
+            change(0, first);
+            set(later, 0, first - 1);
+            for (int i = 1; i < size; i++) {
+                int v = other.num(i - 1);
+                change(i, v < first ? v : v + 1);
+                set(later, i, at(other.later, i - 1));
+            }
+        }
+
         /** Lays out ORDER r, from 0, of all those of n. */
         void loadIndex(int n, int r) {
             open(n);
@@ -1048,6 +1065,7 @@ public final class OrderPatterns {
                     }
                 }
                 change(i, number);
+                set(later, i, number - 1);
             }
         }
 
@@ -1061,8 +1079,7 @@ public final class OrderPatterns {
             return before;
         }
 
-        /** Counts, for each place, the lower numbers behind it. */
-        void countLater() {
+        private void countLater() {
             for (int i = 0; i < size; i++) {
                 int lower = 0;
                 for (int j = i + 1; j < size; j++) {
@@ -1074,7 +1091,7 @@ public final class OrderPatterns {
             }
         }
 
-        /** The index of the ORDER that is left without a place; countLater() goes ahead. */
+        /** The index of the ORDER that is left without a place, if this one came by an index. */
         int indexWithout(int place) {
             int gone = num(place);
             int before = 0;
@@ -1417,7 +1434,8 @@ public final class OrderPatterns {
 
         /**
          * Of an ORDER of n it is known whether it is in, once it is known of those that are left
-         * when it loses one of its first places, so many of them, and from bars().
+         * when it loses one of its first places (so many of them, the very first in any case),
+         * and from bars().
          */
         int looks(int n) {
             return 0;
@@ -1442,7 +1460,6 @@ public final class OrderPatterns {
         final Search search;
         private final int[] patterns = new int[MOST_PATTERNS];
         private int many;
-        private int longest;
 
         Free(Search search) {
             this.search = search;
@@ -1481,7 +1498,6 @@ public final class OrderPatterns {
             if (many < MOST_PATTERNS) {
                 set(patterns, many, pattern);
                 many++;
-                longest = Math.max(longest, sizeOf(pattern));
             }
         }
 
@@ -1494,9 +1510,14 @@ public final class OrderPatterns {
             return true;
         }
 
-        /** A PATTERN of k that is held leaves out one of any k + 1 places. */
+        /** A PATTERN of k, fewer than n, that is held leaves out one of any k + 1 places. */
         int looks(int n) {
-            return Math.min(n, longest + 1);
+            int most = 0;
+            for (int i = 0; i < many; i++) {
+                int k = sizeOf(pattern(i));
+                most = k < n ? Math.max(most, k + 1) : most;
+            }
+            return most;
         }
 
         boolean bars(Line order) {

@@ -1,9 +1,4 @@
-import java.lang.reflect.InvocationTargetException;
-import java.lang.reflect.Method;
-import java.lang.reflect.Modifier;
-import java.util.ArrayList;
 import java.util.Arrays;
-import java.util.List;
 
 /**
  * Every call with each of its arguments at, and one beyond, every bound that the document names,
@@ -150,8 +145,8 @@ final class EdgeTests {
         }
         for (int d = 0; d < 6; d++) {
             for (int i = 0; i <= 10; i++) {
-                checks.due("element" + before, answerOf(x, "element", d, i),
-                        answerOf(model, "element", d, i));
+                checks.due("element" + before, Calls.answerOf(x, "element", d, i),
+                        Calls.answerOf(model, "element", d, i));
             }
             checks.due("weight" + before, x.weight(d), model.weight(d));
             checks.due("toss" + before, x.toss(d), model.toss(d));
@@ -161,40 +156,8 @@ final class EdgeTests {
 
     private long both(String name, int... arguments) throws Exception {
         calls++;
-        long answer = answerOf(x, name, arguments);
-        checks.due(name + Arrays.toString(arguments), answer, answerOf(model, name, arguments));
+        long answer = Calls.answerOf(x, name, arguments);
+        checks.due(name + Arrays.toString(arguments), answer, Calls.answerOf(model, name, arguments));
         return answer;
-    }
-
-    private static long answerOf(Object object, String name, int... arguments) throws Exception {
-        Method method = methodOf(object.getClass(), name, arguments.length);
-        Class<?>[] types = method.getParameterTypes();
-        List<Object> given = new ArrayList<>();
-        for (int i = 0; i < types.length; i++) {
-            Object flag = arguments[i] == 1;
-            Object number = arguments[i];
-            given.add(types[i] == boolean.class ? flag : number);
-        }
-        try {
-            return ((Number) method.invoke(object, given.toArray())).longValue();
-        } catch (InvocationTargetException thrown) {
-            if (thrown.getCause() instanceof IllegalArgumentException) {
-                return -1001;
-            }
-            if (thrown.getCause() instanceof IllegalStateException) {
-                return -1002;
-            }
-            throw thrown;
-        }
-    }
-
-    private static Method methodOf(Class<?> type, String name, int many) {
-        for (Method method : type.getDeclaredMethods()) {
-            boolean isStatic = Modifier.isStatic(method.getModifiers());
-            if (method.getName().equals(name) && method.getParameterCount() == many && !isStatic) {
-                return method;
-            }
-        }
-        throw new IllegalArgumentException("no method " + name);
     }
 }

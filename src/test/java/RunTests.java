@@ -1,30 +1,82 @@
+import java.util.Arrays;
 import java.util.Random;
 
-/** Runs of 512 drawn calls, right and wrong ones, on new objects and new Models. */
+/**
+ * Runs of 512 drawn calls, all calls of the face mixed, right and wrong ones, on new objects and
+ * new Models: what one call leaves in the rows that are used again must not show in another.
+ */
 final class RunTests {
-    private static final int CALLS = 512;
+    private static final int CALLS_OF_A_RUN = 512;
+    private static final int RUNS = 160;
+
+    /** Each call with the kinds of its arguments; twice or more: drawn so much more often. */
+    private static final String[] CALLS = {
+        "length order", "holds order pattern", "where order pattern", "times order pattern",
+        "turned order turn", "least order", "sum pattern pattern flag", "put pattern few pattern",
+        "without order few", "spans order", "parts order which", "simple size",
+        "shape order few", "alike counted",
+        "make place kind told", "make place kind told", "make place kind told",
+        "add place pattern", "add place pattern", "add place pattern", "add place pattern",
+        "add place pattern", "add place pattern", "thin place", "thin place", "look place few",
+        "look place few", "in place order", "in place order", "count place size",
+        "count place size", "ranked place size rank", "ranked place size rank",
+        "rank place counted", "rank place counted", "next place counted", "next place counted",
+        "outer place few", "outer place few", "kids place counted", "kids place counted",
+        "same place place", "same place place", "like place place", "like place place",
+        "turnedClass place turn place", "turnedClass place turn place",
+        "mean pattern size bit", "all place walked pattern", "all place walked pattern",
+        "most pattern walked", "packed pattern walked", "merges order pattern pattern",
+        "rows order flag", "keep shelf what place order", "keep shelf what place order",
+        "keep shelf what place order", "row shelf rowKind length", "row shelf rowKind length",
+        "element shelf few", "element shelf few", "copy shelf few shelf few few",
+        "copy shelf few shelf few few", "copy shelf few shelf few few", "read shelf",
+        "read shelf", "weight shelf", "weight shelf", "toss shelf"};
 
     private final Checks checks;
-    private Random random;
-    private OrderPatterns x;
-    private Model model;
+    private Random random = new Random();
     private int longest;
 
     RunTests(Checks checks) {
         this.checks = checks;
     }
 
-    void run() {
-        for (int seed = 0; seed < 120; seed++) {
+    void run() throws Exception {
+        for (int seed = 0; seed < RUNS; seed++) {
             random = new Random(seed);
-            x = new OrderPatterns();
-            model = new Model();
             // Long ORDERS are slow in the Model, so that few runs count them.
             longest = seed % 20 == 0 ? 8 : 5;
-            boolean right = true;
-            for (int call = 0; call < CALLS && right; call++) {
-                right = call(seed, call);
+            run(seed);
+        }
+    }
+
+    private void run(int seed) throws Exception {
+        OrderPatterns x = new OrderPatterns();
+        Model model = new Model();
+        boolean right = true;
+        for (int call = 0; call < CALLS_OF_A_RUN && right; call++) {
+            String[] words = CALLS[below(CALLS.length)].split(" ");
+            int[] arguments = new int[words.length - 1];
+            for (int i = 0; i < arguments.length; i++) {
+                arguments[i] = drawn(words[i + 1]);
             }
+            if (words[0].equals("merges") && below(4) > 0) {
+                unmerge(arguments);
+            }
+            long got = Calls.answerOf(x, words[0], arguments);
+            long want = Calls.answerOf(model, words[0], arguments);
+            checks.due("run " + seed + " call " + call + ": " + words[0]
+                    + Arrays.toString(arguments), got, want);
+            right = got == want;
+        }
+    }
+
+    /** Two rows of which the ORDER is merged: drawn ones would next to never be. */
+    private void unmerge(int[] arguments) {
+        int[] row = Model.row(arguments[0]);
+        if (row != null) {
+            int places = below(1 << row.length);
+            arguments[1] = Model.standing(Model.chosen(row, places));
+            arguments[2] = Model.standing(Model.chosen(row, ~places));
         }
     }
 
@@ -32,161 +84,60 @@ final class RunTests {
         return random.nextInt(bound);
     }
 
-    private boolean rarely() {
-        return below(25) == 0;
+    private int drawn(String kind) {
+        if (kind.equals("flag")) {
+            return below(2);
+        }
+        if (below(30) == 0) {
+            return wild();
+        }
+        switch (kind) {
+            case "order":
+                return order(9);
+            case "pattern":
+                return order(below(4) == 0 ? 9 : 5);
+            case "counted":
+                return order(longest);
+            case "place":
+                return below(4) == 0 ? below(12) : below(4);
+            case "shelf":
+                return below(6);
+            case "length":
+                return below(8) == 0 ? 58 + below(4) : below(13) - 1;
+            case "kind":
+                return below(3) == 0 ? below(4) : below(2);
+            case "told":
+                return below(5) == 0 ? below(100) - 5 : 1 + below(8);
+            case "turn":
+                return below(8);
+            case "which":
+                return below(12);
+            case "size":
+                return below(longest + 1);
+            case "walked":
+                return below(Math.min(longest, 7) + 1);
+            case "rank":
+                return below(3) == 0 ? below(800) : below(25);
+            case "what":
+                return below(5);
+            case "rowKind":
+                return 3 + below(2);
+            case "bit":
+                return below(2);
+            case "few":
+                return below(3) == 0 ? below(10) : below(5);
+            default:
+                throw new IllegalArgumentException(kind);
+        }
     }
 
     private int wild() {
-        int[] found = {-1, -2, 99, 12, 13, Integer.MIN_VALUE, Integer.MAX_VALUE, 6, 61};
+        int[] found = {-1, -2, 6, 8, 9, 10, 11, 12, 13, 24, 61, 99, 122, 987654320, 1234567890,
+            Integer.MIN_VALUE, Integer.MAX_VALUE};
         return found[below(found.length)];
     }
 
-    private int place() {
-        return rarely() ? wild() : below(4) == 0 ? below(12) : below(4);
-    }
-
-    private int shelf() {
-        return rarely() ? wild() : below(6);
-    }
-
     private int order(int atMost) {
-        if (rarely()) {
-            int[] wrong = {-1, 10, 11, 2, 122, 1234567890, 24, 987654320, 0};
-            return wrong[below(wrong.length)];
-        }
         return DefinitionTests.drawn(random, below(atMost + 1));
-    }
-
-    private int size(int atMost) {
-        return rarely() ? wild() : below(atMost + 1);
-    }
-
-    private boolean call(int seed, int number) {
-        int a = place();
-        int b = place();
-        int d = shelf();
-        int e = shelf();
-        switch (below(24)) {
-            case 0: {
-                int kind = below(20) == 0 ? wild() : below(3) == 0 ? below(4) : below(2);
-                int told = below(5) == 0 ? below(100) - 5 : kind == 2 ? 1 + below(2) : 1 + below(8);
-                return due(seed, number, "make " + a + " " + kind + " " + told,
-                        x.make(a, kind, told), model.make(a, kind, told));
-            }
-            case 1, 2, 3: {
-                int order = order(below(4) == 0 ? 9 : 5);
-                return due(seed, number, "add " + a + " " + order,
-                        x.add(a, order), model.add(a, order));
-            }
-            case 4:
-                return due(seed, number, "thin " + a, x.thin(a), model.thin(a));
-            case 5: {
-                int what = size(8);
-                return due(seed, number, "look " + a + " " + what,
-                        x.look(a, what), model.look(a, what));
-            }
-            case 6: {
-                int order = order(9);
-                return due(seed, number, "in " + a + " " + order,
-                        x.in(a, order), model.in(a, order));
-            }
-            case 7: {
-                int n = size(longest);
-                return due(seed, number, "count " + a + " " + n, x.count(a, n), model.count(a, n));
-            }
-            case 8: {
-                int n = size(longest);
-                int i = below(3) == 0 ? below(800) - 2 : below(25) - 1;
-                return due(seed, number, "ranked " + a + " " + n + " " + i,
-                        x.ranked(a, n, i), model.ranked(a, n, i));
-            }
-            case 9: {
-                int order = order(longest);
-                return due(seed, number, "rank " + a + " " + order,
-                        x.rank(a, order), model.rank(a, order));
-            }
-            case 10: {
-                int order = order(longest);
-                return due(seed, number, "next " + a + " " + order,
-                        x.next(a, order), model.next(a, order));
-            }
-            case 11: {
-                int i = rarely() ? wild() : below(8);
-                return due(seed, number, "outer " + a + " " + i, x.outer(a, i), model.outer(a, i));
-            }
-            case 12: {
-                int order = order(longest - 1);
-                return due(seed, number, "kids " + a + " " + order,
-                        x.kids(a, order), model.kids(a, order));
-            }
-            case 13:
-                return due(seed, number, "same " + a + " " + b, x.same(a, b), model.same(a, b));
-            case 14:
-                return due(seed, number, "like " + a + " " + b, x.like(a, b), model.like(a, b));
-            case 15: {
-                int turn = size(7);
-                return due(seed, number, "turnedClass " + a + " " + turn + " " + b,
-                        x.turnedClass(a, turn, b), model.turnedClass(a, turn, b));
-            }
-            case 16: {
-                int n = size(Math.min(longest, 7));
-                int order = order(4);
-                return due(seed, number, "all " + a + " " + n + " " + order,
-                        x.all(a, n, order), model.all(a, n, order));
-            }
-            case 17: {
-                int what = rarely() ? wild() : below(5);
-                int order = order(9);
-                return due(seed, number, "keep " + d + " " + what + " " + a + " " + order,
-                        x.keep(d, what, a, order), model.keep(d, what, a, order));
-            }
-            case 18: {
-                int what = rarely() ? wild() : 3 + below(2);
-                int n = rarely() ? wild() : below(8) == 0 ? 58 + below(4) : below(12) - 1;
-                return due(seed, number, "row " + d + " " + what + " " + n,
-                        x.row(d, what, n), model.row(d, what, n));
-            }
-            case 19: {
-                int i = rarely() ? wild() : below(8);
-                return due(seed, number, "element " + d + " " + i, element(d, i), modelElement(d, i));
-            }
-            case 20, 21: {
-                int i = rarely() ? wild() : below(6);
-                int j = rarely() ? wild() : below(6);
-                int n = rarely() ? wild() : below(6);
-                return due(seed, number, "copy " + d + " " + i + " " + e + " " + j + " " + n,
-                        x.copy(d, i, e, j, n), model.copy(d, i, e, j, n));
-            }
-            case 22:
-                return due(seed, number, "read " + d, x.read(d), model.read(d));
-            default:
-                return due(seed, number, "weight " + d, x.weight(d), model.weight(d))
-                        && due(seed, number, "toss " + d, x.toss(d), model.toss(d));
-        }
-    }
-
-    private long element(int d, int i) {
-        try {
-            return x.element(d, i);
-        } catch (IllegalArgumentException noShelf) {
-            return -1001;
-        } catch (IllegalStateException noElement) {
-            return -1002;
-        }
-    }
-
-    private long modelElement(int d, int i) {
-        try {
-            return model.element(d, i);
-        } catch (IllegalArgumentException noShelf) {
-            return -1001;
-        } catch (IllegalStateException noElement) {
-            return -1002;
-        }
-    }
-
-    private boolean due(int seed, int number, String call, long got, long want) {
-        checks.due("run " + seed + " call " + number + ": " + call, got, want);
-        return got == want;
     }
 }
