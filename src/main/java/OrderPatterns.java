@@ -906,7 +906,7 @@ public final class OrderPatterns {
         }
     }
 
-    /** Whether each ORDER that is left when walker loses a place, of some, is in a Table. */
+    /** Whether each ORDER that is left when walker loses one of places from .. end - 1 is there. */
     private boolean hasAllLeft(Table table, int from, int end) {
         for (int i = from; i < end; i++) {
             if (!table.has(walker.size() - 1, walker.indexWithout(i))) {
@@ -967,7 +967,7 @@ public final class OrderPatterns {
     /** An ORDER, or other numbers no two of which are alike, laid out one by one. */
     private static final class Line {
         private final int[] numbers = new int[LONGEST];
-        /** For each place: how many lower numbers are behind it. They make an ORDER's index. */
+        /** For each place of an ORDER that came by an index: how many lower ones are behind it. */
         private final int[] later = new int[LONGEST];
         private int size;
 
@@ -1071,24 +1071,21 @@ public final class OrderPatterns {
 
         /** How many ORDERS of n come before this one. */
         int index() {
-            countLater();
             int before = 0;
             for (int i = 0; i < size; i++) {
-                before = before * (size - i) + at(later, i);
+                before = before * (size - i) + lowerBehind(i);
             }
             return before;
         }
 
-        private void countLater() {
-            for (int i = 0; i < size; i++) {
-                int lower = 0;
-                for (int j = i + 1; j < size; j++) {
-                    if (num(j) < num(i)) {
-                        lower++;
-                    }
+        private int lowerBehind(int place) {
+            int lower = 0;
+            for (int i = place + 1; i < size; i++) {
+                if (num(i) < num(place)) {
+                    lower++;
                 }
-                set(later, i, lower);
             }
+            return lower;
         }
 
         /** The index of the ORDER that is left without a place, if this one came by an index. */

@@ -15,6 +15,7 @@ public final class AllTests {
         new RefusalTests(checks).run();
         new RunTests(checks).run();
         new EdgeTests(checks).run();
+        new ReadmeTests(checks).run();
         new RoomTests(checks).run();
         new LanguageTests(checks).run();
         System.out.println("checks: " + checks.passed() + " passed, " + checks.failed() + " failed");

@@ -33,7 +33,13 @@ final class LanguageTests {
         "\\bThrowable\\b", "\\bRuntimeException\\b", "\\bError\\b", "Exact\\(",
         "ArrayIndexOutOfBounds", "NullPointer", "ArithmeticException", "ClassCast",
         "NegativeArraySize", "ArrayStore", "getMessage", "\\bSystem\\.(?!arraycopy)",
-        "\\bstatic\\s*\\{", "\\bdouble\\b", "\\bfloat\\b", "@", "\\bswitch\\b"};
+        "\\bstatic\\s*\\{", "\\bdouble\\b", "\\bfloat\\b", "@", "\\bswitch\\b",
+        "\\bArrays\\.(?!fill\\(|copyOf\\(|copyOfRange\\()", "\\bMath\\.(?!min\\(|max\\(|abs\\()",
+        "\\bInteger\\.(?!bitCount\\(|highestOneBit\\(|numberOfLeadingZeros\\()", "\\bLong\\.",
+        "\\bthrow (?!new Illegal(Argument|State)Exception\\(\"|new UnsupportedOp)", "\"\\s*\\+",
+        "\\+\\s*\""};
+    private static final int MOST_PARAMETERS = 7;
+    private static final int MOST_FIELDS = 20;
 
     private final Checks checks;
 
@@ -44,6 +50,7 @@ final class LanguageTests {
     void run() throws Exception {
         face();
         insideClasses();
+        sizes(OrderPatterns.class);
         source();
     }
 
@@ -70,9 +77,7 @@ final class LanguageTests {
         checks.yes("the face is " + shown, shown.equals(new TreeSet<>(Arrays.asList(FACE))));
         checks.yes("private ones bear other names", names().stream().noneMatch(hidden::contains));
         for (Field field : type.getDeclaredFields()) {
-            boolean constant = Modifier.isFinal(field.getModifiers());
             checks.yes(field + " is private", Modifier.isPrivate(field.getModifiers()));
-            checks.yes(field + " is final", constant || !Modifier.isStatic(field.getModifiers()));
         }
         Constructor<?>[] made = type.getDeclaredConstructors();
         checks.yes("one constructor", made.length == 1 && made[0].getParameterCount() == 0);
@@ -91,10 +96,25 @@ final class LanguageTests {
         checks.yes("at most twelve classes: " + inside.length, inside.length < 12);
         for (Class<?> type : inside) {
             checks.yes(type + " is static", Modifier.isStatic(type.getModifiers()));
+            sizes(type);
             for (Method method : type.getDeclaredMethods()) {
                 boolean other = method.isSynthetic() || !names().contains(method.getName());
                 checks.yes(method + " bears another name than the face's", other);
             }
+        }
+    }
+
+    /** No state outside objects, few fields, few parameters. */
+    private void sizes(Class<?> type) {
+        int own = 0;
+        for (Field field : type.getDeclaredFields()) {
+            boolean isStatic = Modifier.isStatic(field.getModifiers());
+            checks.yes(field + " is final", !isStatic || Modifier.isFinal(field.getModifiers()));
+            own += isStatic ? 0 : 1;
+        }
+        checks.yes(type + " has " + own + " fields", own <= MOST_FIELDS);
+        for (Method method : type.getDeclaredMethods()) {
+            checks.yes(method + " takes few", method.getParameterCount() <= MOST_PARAMETERS);
         }
     }
 
